@@ -24,6 +24,9 @@ public final class ForesightTest {
     private static void completeByTheRarestPart() {
         SparePool pool = new SparePool();
         complete(pool, 0, 0, 0, 0);
+        SparePool none = new SparePool();
+        none.come(0, 0, 7);
+        complete(none, 0, 0, 1, 0);
         pool.come(1, 3, 1);
         pool.come(1, 3, 2);
         complete(pool, 3, 1, 0, 0);
@@ -139,6 +142,10 @@ public final class ForesightTest {
         Check.due("the lowest of two", pool.firstDue(), 2);
         pool.lend(0, 4, 30);
         Check.due("not a later one", pool.firstDue(), 2);
+        pool.bring(0);
+        pool.lend(0, 4, 8);
+        Check.due("the lowest of three", pool.firstDue(), 0);
+        pool.bring(0);
         pool.days(50);
         pool.bring(2);
         pool.bring(3);

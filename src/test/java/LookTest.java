@@ -72,6 +72,10 @@ public final class LookTest {
         pool.take(5, 4, 0);
         Check.due("taken twice", pool.about(7), 2);
         Check.due("and cancelled", pool.about(6), 0);
+        pool.take(5, 4, 1);
+        Check.due("0 owes a part", pool.about(6), 1);
+        Check.due("holder 0 owes it", pool.holder(0, 5), 1);
+        Check.due("to holder 2", pool.holder(2, 6), 1);
     }
 
     private static void unitTellsSixNumbers() {

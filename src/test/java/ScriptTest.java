@@ -5,6 +5,7 @@ public final class ScriptTest {
         eachCommandSucceedsAndFails();
         otherGroupsFail();
         theFirstThatFailsIsTold();
+        whatCostsNothingSucceeds();
         zerosBefore();
         theStateStays();
         Check.finish("ScriptTest");
@@ -123,6 +124,17 @@ public final class ScriptTest {
         Check.due("of two", pool.runScript(2, 200_003_200_003L), 1);
         Check.due("bought, so one more is usable", pool.runScript(2, 601_000_900_003L), -1);
         Check.due("and then exchanged", pool.runScript(3, 601_000_302_010_701_000L), -1);
+    }
+
+    private static void whatCostsNothingSucceeds() {
+        SparePool pool = pool();
+        pool.set(1, 0);
+        pool.set(2, 0);
+        Check.due("an exchange for nothing", pool.runScript(1, 302_000), -1);
+        pool.come(0, 1, 3);
+        pool.lend(5, 0, 2);
+        Check.due("a part among own ones", pool.runScript(1, 403_050), 0);
+        Check.due("a part owed to no one", pool.runScript(1, 403_052), -1);
     }
 
     private static void zerosBefore() {

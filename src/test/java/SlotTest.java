@@ -5,6 +5,7 @@ public final class SlotTest {
         restoreBringsBackAll();
         theSlotKeepsItsState();
         restoreForgetsWhatIsRemembered();
+        coresAndDebtsComeBack();
         saveIsNoAction();
         loadEmptiesTheSlots();
         Check.finish("SlotTest");
@@ -90,6 +91,33 @@ public final class SlotTest {
         pool.days(5);
         Check.due("undo to what was restored", pool.undo(), 0);
         Check.due("today", pool.about(0), 1);
+    }
+
+    private static void coresAndDebtsComeBack() {
+        SparePool pool = new SparePool();
+        for (int u = 0; u < 8; u++) {
+            pool.come(u % 2, 4, 7);
+        }
+        pool.come(2, 3, 0);
+        pool.come(2, 0, 7);
+        pool.lend(8, 0, 2);
+        pool.take(9, 8, 1);
+        for (int h = 0; h < 4; h++) {
+            pool.advance(h, h, 1 + h);
+        }
+        pool.save(0);
+        for (int h = 0; h < 4; h++) {
+            pool.deliver(h);
+            pool.advance(h, h + 4 ^ 1, 11 + h);
+        }
+        pool.settle(3, 0, 2, 1);
+        Check.due("restore", pool.restore(0), 10);
+        for (int h = 0; h < 4; h++) {
+            Check.due("kind of the core", pool.core(h, 0, 0), h % 2);
+            Check.due("its day", pool.core(h, 0, 1), 1 + h);
+        }
+        Check.due("the debt", pool.owed(3, 0, 2, 1), 1);
+        Check.due("the account", pool.holder(3, 0), 0);
     }
 
     private static void saveIsNoAction() {

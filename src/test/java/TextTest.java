@@ -205,6 +205,14 @@ public final class TextTest {
         pool.lend(0, 2, 1);
         pool.come(0, 2, 1);
         pool.take(0, 3, 1);
+        pool.come(0, 4, 7);
+        pool.come(0, 4, 7);
+        pool.come(0, 0, 0);
+        pool.exchange(6, 4);
+        pool.advance(0, 5, 9);
+        pool.come(0, 0, 1);
+        pool.lend(7, 2, 1);
+        Check.due("0 owes a part", pool.take(0, 7, 2), 1);
         pool.buy(3, 2);
         pool.days(9);
         pool.save(0);

@@ -44,45 +44,35 @@ public final class UndoTest {
         }
     }
 
-    private static void everyActionIsRemembered() {
+    private static final Calls.Call[] EVERY_ACTION = {
+        new Calls.Call("come", 0, 4, 7), new Calls.Call("come", 0, 1, 3), new Calls.Call("come", 0, 4, 7),
+        new Calls.Call("lend", 1, 2, 3), new Calls.Call("bring", 1), new Calls.Call("exchange", 1, 0),
+        new Calls.Call("advance", 1, 2, 9), new Calls.Call("come", 0, 3, 0), new Calls.Call("lend", 3, 1, 2),
+        new Calls.Call("take", 0, 3, 2), new Calls.Call("settle", 3, 1, 0, 2), new Calls.Call("deliver", 0),
+        new Calls.Call("buy", 1, 2), new Calls.Call("days", 5), new Calls.Call("set", 2, 8),
+        new Calls.Call("bring", 3)};
+
+    private static SparePool after(int actions) {
         SparePool pool = new SparePool();
-        Check.Call[] actions = {
-            () -> pool.come(0, 4, 7), () -> pool.come(0, 1, 3), () -> pool.come(0, 4, 7),
-            () -> pool.lend(1, 2, 3), () -> pool.bring(1), () -> pool.exchange(1, 0),
-            () -> pool.advance(1, 2, 9), () -> pool.take(0, 1, 2), () -> pool.deliver(0)};
-        // The take above is refused: its units are at different places.
-        int done = 0;
-        for (Check.Call action : actions) {
-            done += Outcome.of(action).startsWith("Ill") ? 0 : 1;
+        for (int i = 0; i < actions; i++) {
+            String answer = Calls.answer(pool, EVERY_ACTION[i]);
+            Check.due(EVERY_ACTION[i].text() + " is done", answer.endsWith("Exception") ? 0 : 1, 1);
         }
-        Check.due("done", done, 8);
-        Check.due("days", pool.days(1), 1);
-        Check.due("buy", pool.buy(1, 2), 7);
-        Check.due("set", pool.set(2, 8), 20);
-        for (int left = 10; left >= 0; left--) {
-            Check.due("undo", pool.undo(), left);
-        }
-        Check.same("as new", Look.at(pool), Look.at(new SparePool()));
-        takesAndSettlesAreRemembered();
+        return pool;
     }
 
-    private static void takesAndSettlesAreRemembered() {
-        SparePool pool = new SparePool();
-        pool.come(0, 1, 7);
-        pool.come(0, 2, 0);
-        pool.lend(1, 1, 3);
-        pool.take(0, 1, 2);
-        pool.settle(2, 1, 0, 2);
-        Check.due("undo the settling", pool.undo(), 4);
-        Check.due("owed again", pool.owed(2, 1, 0, 2), 1);
-        Check.due("paid back", pool.holder(1, 0), 0);
-        Check.due("undo the taking", pool.undo(), 3);
-        Check.due("owed no more", pool.owed(2, 1, 0, 2), 0);
-        Check.due("part is back", pool.unit(0, 3), 7);
-        Check.due("not counted", pool.about(7), 0);
-        Check.due("undo the lending", pool.undo(), 2);
-        Check.due("place", pool.unit(1, 2), 2);
-        Check.due("no due day", pool.unit(1, 4), -1);
+    private static void everyActionIsRemembered() {
+        for (int actions = 1; actions <= EVERY_ACTION.length; actions++) {
+            SparePool pool = after(actions);
+            int remembered = Math.min(actions, 14);
+            Check.due("undo", pool.undo(), remembered - 1);
+            Check.same("undo of " + EVERY_ACTION[actions - 1].text(), Look.at(pool), Look.at(after(actions - 1)));
+        }
+        SparePool pool = after(EVERY_ACTION.length);
+        for (int left = 13; left >= 0; left--) {
+            Check.due("undo", pool.undo(), left);
+        }
+        Check.same("all taken back", Look.at(pool), Look.at(after(EVERY_ACTION.length - 14)));
     }
 
     private static void undoIsNoAction() {
