@@ -6,23 +6,43 @@ final class Check {
 
     private static int checks = 0;
     private static int wrong = 0;
+    private static int sentences = 0;
+    private static int checksBefore = 0;
+    private static String sentence = "";
 
     private Check() {
+    }
+
+    /** The sentence of the document that the checks behind it are about; it needs one at least. */
+    static void says(String next) {
+        closeSentence();
+        sentences++;
+        sentence = next;
+    }
+
+    private static void closeSentence() {
+        if (!sentence.isEmpty() && checks == checksBefore) {
+            tellWrong("no check");
+        }
+        checksBefore = checks;
+    }
+
+    private static void tellWrong(String what) {
+        wrong++;
+        System.out.println(sentence.isEmpty() ? what : "\"" + sentence + "\": " + what);
     }
 
     static void due(String what, long got, long want) {
         checks++;
         if (got != want) {
-            wrong++;
-            System.out.println(what + " answered " + got + ", due is " + want);
+            tellWrong(what + " answered " + got + ", due is " + want);
         }
     }
 
     static void same(String what, String got, String want) {
         checks++;
         if (!got.equals(want)) {
-            wrong++;
-            System.out.println(what + ": got " + got + ", due is " + want);
+            tellWrong(what + ": got " + got + ", due is " + want);
         }
     }
 
@@ -39,7 +59,9 @@ final class Check {
     }
 
     static void finish(String test) {
-        System.out.println(test + ": " + checks + " checks, " + wrong + " not as due");
+        closeSentence();
+        String all = sentences == 0 ? "" : sentences + " sentences, ";
+        System.out.println(test + ": " + all + checks + " checks, " + wrong + " not as due");
         if (wrong != 0 || checks == 0) {
             System.exit(1);
         }
