@@ -10,6 +10,8 @@ public final class SlotEdgeTest {
         nothingSaved();
         nothingSavedSinceTheLastLoad();
         restoreReplacesTheState();
+        coresComeBack();
+        debtsAndMoneyComeBack();
         restoreForgets();
         theSlotKeepsIt();
         theTextIsNoState();
@@ -131,21 +133,60 @@ public final class SlotEdgeTest {
         Check.due("all units", units.restore(1), 16);
         Check.noState("no 17th", () -> units.come(0, 0, 0));
         Check.due("the last one", units.unit(15, 0), 2);
-        SparePool cores = Pools.with(47, 147, 47);
-        cores.advance(1, 0, 7);
-        cores.advance(1, 1, 9);
-        cores.save(0);
-        cores.deliver(0);
-        cores.advance(1, 2, 11);
-        cores.restore(0);
-        for (int k = 0; k <= 1; k++) {
-            Check.due("the kind of core " + k, cores.core(1, k, 0), k);
-            Check.due("the day of core " + k, cores.core(1, k, 1), 7 + 2 * k);
-        }
         SparePool same = Pools.busy();
         same.save(1);
         same.restore(1);
         Check.same("the present state", Look.at(same), Look.at(Pools.busy()));
+    }
+
+    private static void coresComeBack() {
+        Check.says("Replaces the state (all cores of all operators)");
+        for (int h = 0; h <= 3; h++) {
+            SparePool pool = Pools.with(47, 147, 247, 47, 147, 247);
+            for (int v = 0; v < 6; v++) {
+                pool.advance(h, v, 7 + v);
+            }
+            pool.save(0);
+            for (int v = 0; v < 6; v++) {
+                pool.deliver(v);
+            }
+            for (int v = 5; v >= 0; v--) {
+                pool.advance(h, v, 30 - v);
+            }
+            pool.restore(0);
+            for (int k = 0; k < 6; k++) {
+                Check.due("the kind of core " + k, pool.core(h, k, 0), k % 3);
+                Check.due("the day of core " + k, pool.core(h, k, 1), 7 + k);
+            }
+        }
+    }
+
+    private static void debtsAndMoneyComeBack() {
+        Check.says("Replaces the state (all debts of parts and all accounts)");
+        for (int i = 0; i < 225; i++) {
+            int h = i / 45;
+            int other = i / 9 % 5;
+            int kind = i / 3 % 3;
+            int part = i % 3;
+            SparePool pool = Pools.with(100 * kind + 10 * other + 7, 100 * kind + 10 * h);
+            if (h != other) {
+                pool.lend(0, h, 1);
+                pool.take(0, 1, part);
+                pool.save(1);
+                pool.settle(h, other, kind, part);
+                pool.restore(1);
+                Check.due("owed", pool.owed(h, other, kind, part), 1);
+                Check.due("in all", pool.about(6), 1);
+                Check.due("who paid", pool.holder(h, 0), 0);
+                Check.due("who got it", pool.holder(other, 0), 0);
+                pool.settle(h, other, kind, part);
+                pool.undo();
+                Check.due("owed again", pool.owed(h, other, kind, part), 1);
+                Check.due("in all", pool.about(6), 1);
+                Check.due("who paid", pool.holder(h, 0), 0);
+                Check.due("who got it", pool.holder(other, 0), 0);
+            }
+        }
     }
 
     private static void restoreForgets() {

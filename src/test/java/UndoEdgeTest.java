@@ -51,9 +51,12 @@ public final class UndoEdgeTest {
         oneAction("exchange", Pools::busy, x -> x.exchange(3, 0));
         oneAction("advance", Pools::busy, x -> x.advance(3, 7, 2));
         oneAction("deliver", Pools::busy, x -> x.deliver(8));
-        oneAction("deliver of the oldest of some", UndoEdgeTest::fiveCores, x -> x.deliver(0));
-        oneAction("deliver of another one of some", UndoEdgeTest::fiveCores, x -> x.deliver(1));
-        oneAction("advance behind some", UndoEdgeTest::fiveCores, x -> x.advance(0, 5, 25));
+        for (int h = 0; h <= 3; h++) {
+            int operator = h;
+            oneAction("deliver of the oldest of some", () -> fiveCores(operator), x -> x.deliver(0));
+            oneAction("deliver of another one of some", () -> fiveCores(operator), x -> x.deliver(1));
+            oneAction("advance behind some", () -> fiveCores(operator), x -> x.advance(operator, 5, 25));
+        }
         oneAction("take", Pools::busy, x -> x.take(4, 5, 2));
         oneAction("settle", Pools::busy, x -> x.settle(3, 1, 0, 1));
         oneAction("buy", Pools::busy, x -> x.buy(3, 1));
@@ -63,10 +66,10 @@ public final class UndoEdgeTest {
         oneAction("set 2", Pools::busy, x -> x.set(2, 999));
     }
 
-    private static SparePool fiveCores() {
+    private static SparePool fiveCores(int h) {
         SparePool pool = Pools.with(47, 147, 247, 47, 147, 247);
         for (int v = 0; v < 5; v++) {
-            pool.advance(0, v, 3 + 4 * v);
+            pool.advance(h, v, 3 + 4 * v);
         }
         for (int i = 0; i < 5; i++) {
             pool.days(1);
