@@ -41,9 +41,19 @@ final class Calls {
         return fitted;
     }
 
-    /** Mostly 0 to end - 1, seldom just outside. */
+    /** Mostly 0 to end - 1, seldom outside. */
     private static long to(Random random, int end) {
-        return random.nextInt(40) == 0 ? (random.nextBoolean() ? -1 : end) : random.nextInt(Math.max(1, end));
+        return random.nextInt(40) == 0 ? outside(random, end) : random.nextInt(Math.max(1, end));
+    }
+
+    /** Mostly just outside, else as far as an int goes, or anywhere. */
+    private static long outside(Random random, int end) {
+        switch (random.nextInt(8)) {
+            case 0: return Integer.MIN_VALUE;
+            case 1: return Integer.MAX_VALUE;
+            case 2: return random.nextInt();
+            default: return random.nextBoolean() ? -1 : end;
+        }
     }
 
     static Call action(Random random, int units) {
@@ -93,7 +103,7 @@ final class Calls {
     static Call script(Random random, int units) {
         int n = (int) (1 + to(random, 3));
         long script = 0;
-        for (int i = 0; i < n; i++) {
+        for (int i = 0; i < Math.min(n, 4); i++) {
             script = script * 1_000_000 + command(random, units);
         }
         return new Call("runScript", n, random.nextInt(30) == 0 ? random.nextLong() : script);

@@ -12,14 +12,12 @@ import java.util.TreeSet;
 import java.util.regex.Matcher;
 import java.util.regex.Pattern;
 
-/** The public face as the document writes it, and the rules of LANGUAGE.md that can be seen at a glance. */
+/** The public face as the document writes it, and no more than that. */
 public final class FaceTest {
     public static void main(String[] args) throws IOException {
         theFaceIsTheDocuments();
         nothingElseIsSeen();
         noPrivateMethodBearsAPublicName();
-        nothingStaticChanges();
-        wordsThatAreRuledOut();
         Check.finish("FaceTest");
     }
 
@@ -84,30 +82,6 @@ public final class FaceTest {
                 boolean isPublic = Modifier.isPublic(method.getModifiers());
                 Check.due(method + " has a name of the face", names.contains(method.getName()) ? 1 : 0, isPublic ? 1 : 0);
             }
-        }
-    }
-
-    private static void nothingStaticChanges() {
-        for (Class<?> type : ownClasses()) {
-            int fields = 0;
-            for (Field field : type.getDeclaredFields()) {
-                boolean isStatic = Modifier.isStatic(field.getModifiers());
-                fields += isStatic ? 0 : 1;
-                Check.due(field + " is final", !isStatic || Modifier.isFinal(field.getModifiers()) ? 1 : 0, 1);
-            }
-            Check.due(type + " is small", fields <= 20 ? 1 : 0, 1);
-        }
-    }
-
-    private static void wordsThatAreRuledOut() throws IOException {
-        String code = Files.readString(Path.of("src/main/java/SparePool.java"));
-        String[] out = {"->", "::", "import ", "package ", "finally", "synchronized", "assert ", "catch", "Exact(",
-            "instanceof", "System.out", "static {"};
-        for (String word : out) {
-            Check.due("'" + word + "' stands at", code.indexOf(word), -1);
-        }
-        for (String line : code.split("\n")) {
-            Check.due("a short line: " + line, line.length() <= 120 ? 1 : 0, 1);
         }
     }
 }
